@@ -483,7 +483,6 @@ public final class BranchingKernel {
         void begin(int itsParent) {
             state = READY;
             parent = itsParent;
-            code = 0;
             counter = 0;
             for (int r = 0; r < REGISTERS; r++) {
                 registers[r] = 0;

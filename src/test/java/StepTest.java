@@ -30,6 +30,10 @@ public final class StepTest {
         noMemoryWhenShared();
         noMemoryWhenTouchedByWrite();
         copies();
+        plainOpsRan();
+        childWithNumberZero();
+        everyRegisterIsForked();
+        everyWordOfAFrame();
         check.finish();
     }
 
@@ -351,7 +355,7 @@ public final class StepTest {
 
     private static void endOfARow() {
         check.section("op 12");
-        BranchingKernel x = with(4, Words.yield(), Words.set(1, 1), Words.set(1, 2), Words.set(1, 3));
+        BranchingKernel x = with(4, Words.endRow(), Words.set(1, 1), Words.set(1, 2), Words.set(1, 3));
         x.load(4);
         check.same("step()", x.step(), BranchingKernel.RAN);
         check.same("register(0, 8)", x.register(0, 8), 1);
@@ -362,7 +366,7 @@ public final class StepTest {
         x.step();
         check.same("running()", x.running(), 0);
         check.same("register(0, 1)", x.register(0, 1), 1);
-        BranchingKernel y = with(3, Words.yield(), Words.set(1, 1), Words.set(1, 2));
+        BranchingKernel y = with(3, Words.endRow(), Words.set(1, 1), Words.set(1, 2));
         y.steps(2);
         check.same("itself, when no other is ready", y.register(0, 1), 1);
         check.same("running()", y.running(), 0);
@@ -516,5 +520,72 @@ public final class StepTest {
         x.steps(2);
         check.same("the last one of a class writes without a copy", x.frames(), 2);
         check.same("peek(1, 8)", x.peek(1, 8), 100);
+    }
+
+    private static void plainOpsRan() {
+        check.section("ops that ran");
+        BranchingKernel x = with(16, Words.set(1, 1), Words.add(1, 1, 1), Words.subtract(2, 1), Words.read(3, 0, 9),
+                Words.write(3, 0, 9), Words.jumpIfNotZero(3, 0), Words.jumpIfLess(1, 2, 0), Words.sbrk(4, 1), Words.sbrk(4, 99),
+                Words.await(5), Words.endRow(), Words.self(6));
+        for (int k = 0; k < 12; k++) {
+            check.same("step " + k, x.step(), BranchingKernel.RAN);
+        }
+    }
+
+    /** 0 is a child like any other. */
+    private static void childWithNumberZero() {
+        check.section("child 0");
+        BranchingKernel x = with(3, Words.fork(1), Words.await(2), Words.fork(1));
+        x.load(3);
+        x.kill(0);
+        x.reap(0);
+        x.step();
+        check.same("parent(0)", x.parent(0), 1);
+        check.same("a living child", x.step(), BranchingKernel.SLEPT);
+        x.kill(0);
+        check.same("state(1)", x.state(1), BranchingKernel.READY);
+        check.same("a zombie child", x.step(), BranchingKernel.RAN);
+        check.same("register(1, 2)", x.register(1, 2), BranchingKernel.KILLED);
+        check.same("state(0)", x.state(0), BranchingKernel.FREE);
+        x.step();
+        check.same("parent(0)", x.parent(0), 1);
+        x.kill(1);
+        check.same("parent(0)", x.parent(0), -1);
+    }
+
+    private static void everyRegisterIsForked() {
+        check.section("registers of a child");
+        BranchingKernel x = with(10, Words.set(0, 10), Words.set(1, 11), Words.set(2, 12), Words.set(3, 13), Words.set(4, 14),
+                Words.set(5, 15), Words.set(6, 16), Words.set(7, 17), Words.fork(4));
+        x.steps(9);
+        for (int r = 0; r < 8; r++) {
+            check.same("register(1, " + r + ")", x.register(1, r), r == 4 ? 0 : 10 + r);
+        }
+        x.kill(0);
+        x.kill(1);
+        x.reap(0);
+        x.load(1);
+        for (int r = 0; r < 8; r++) {
+            check.same("register(0, " + r + ")", x.register(0, r), 0);
+        }
+    }
+
+    /** A copy has all eight words, a frame that served before has none of its old ones, the last page has an end. */
+    private static void everyWordOfAFrame() {
+        check.section("every word of a frame");
+        BranchingKernel x = with(16, Words.fork(1), Words.write(1, 0, 12), Words.sbrk(2, -8), Words.sbrk(2, 8), Words.read(3, 0, 9),
+                Words.sbrk(2, 48), Words.write(2, 0, 62), Words.sbrk(2, -1), 50, 51, 52, 53, 54, 55, 56, 57);
+        x.steps(2);
+        for (int i = 8; i < 16; i++) {
+            check.same("copied: peek(0, " + i + ")", x.peek(0, i), i == 12 ? 1 : 42 + i);
+        }
+        x.steps(3);
+        check.same("sharing(0, 1)", x.sharing(0, 1), 1);
+        for (int i = 8; i < 16; i++) {
+            check.same("touched anew: peek(0, " + i + ")", x.peek(0, i), 0);
+        }
+        check.same("steps(3)", x.steps(3), 3);
+        check.same("register(0, 9)", x.register(0, 9), 63);
+        check.same("peek(0, 62)", x.peek(0, 62), 16);
     }
 }

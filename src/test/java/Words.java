@@ -55,7 +55,7 @@ final class Words {
         return word(11, a, 0, 0);
     }
 
-    static int yield() {
+    static int endRow() {
         return word(12, 0, 0, 0);
     }
 
