@@ -25,6 +25,7 @@ public final class TermsEdgeTest {
         noneIsReady();
         endOfAParent();
         endOfAChild();
+        eachEndOfAChild();
         check.finish();
     }
 
@@ -264,6 +265,7 @@ public final class TermsEdgeTest {
             check.same("step()", x.step(), BranchingKernel.ENDED);
             check.same("code(0)", x.code(0), BranchingKernel.NO_MEMORY);
             for (int p = 1; p <= 2; p++) {
+                check.same("parent(" + p + ")", x.parent(p), -1);
                 check.same("sharing(" + p + ", 1)", x.sharing(p, 1), 2);
                 check.same("register(" + p + ", 9)", x.register(p, 9), 16);
                 for (int i = 8; i < 16; i++) {
@@ -492,5 +494,29 @@ public final class TermsEdgeTest {
         ready.kill(p);
         check.same("a ready parent", ready.state(parent), BranchingKernel.READY);
         check.same("a ready parent's counter", ready.register(parent, 8), 7);
+    }
+
+    /** Whichever way the child ends, the parent that waits for it is ready then and gets the code. */
+    private static void eachEndOfAChild() {
+        check.section("each end of a child");
+        int[] lasts = {Words.exit(3), 14, 15, Words.read(2, 0, 16), Words.read(2, 0, -1), Words.write(2, 0, 16),
+            Words.write(2, 0, 15), Words.sbrk(2, -1)};
+        int[] codes = {66, BranchingKernel.ILLEGAL, BranchingKernel.ILLEGAL, BranchingKernel.OUTSIDE, BranchingKernel.OUTSIDE,
+            BranchingKernel.OUTSIDE, BranchingKernel.NO_MEMORY, BranchingKernel.NO_MEMORY};
+        for (int k = 0; k < lasts.length; k++) {
+            BranchingKernel x = new BranchingKernel(2, 20);
+            Words.loadAll(x, 16, Words.set(3, 66), Words.fork(1), Words.jumpIfNotZero(1, 4), lasts[k], Words.await(2));
+            check.same("steps(5)", x.steps(5), 5);
+            check.same("the parent waits", x.state(0), BranchingKernel.WAITING);
+            check.same("word " + lasts[k], x.step(), BranchingKernel.ENDED);
+            check.same("code(1)", x.code(1), codes[k]);
+            check.same("parent(1)", x.parent(1), 0);
+            check.same("sharing(0, 0)", x.sharing(0, 0), 1);
+            check.same("sharing(0, 1)", x.sharing(0, 1), 1);
+            check.same("the parent is ready", x.state(0), BranchingKernel.READY);
+            check.same("step()", x.step(), BranchingKernel.RAN);
+            check.same("register(0, 2)", x.register(0, 2), codes[k]);
+            check.same("state(1)", x.state(1), BranchingKernel.FREE);
+        }
     }
 }
